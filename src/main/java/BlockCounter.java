@@ -405,7 +405,7 @@ public final class BlockCounter {
         /** The block whose head the address is. */
         int numberOfHead(int address) {
             int number = numberAt(address);
-            return number != NO_BLOCK && heads[number] == address ? number : NO_BLOCK;
+            return number != NO_BLOCK && headOf(number) == address ? number : NO_BLOCK;
         }
 
         /** False if the program is refused. */
@@ -505,7 +505,7 @@ public final class BlockCounter {
 
         private void findBlocks(Program program) {
             for (int address = 0; address < CODE_SIZE; address++) {
-                if (isHead[address]) {
+                if (isHead[address] && blockCount < CODE_SIZE) {
                     addBlock(program, address);
                 }
             }
@@ -803,6 +803,7 @@ public final class BlockCounter {
                 case Instruction.COUNT:
                     grow(instruction.n);
                     break;
+                case Instruction.NOTHING:
                 default:
                     break;
             }
