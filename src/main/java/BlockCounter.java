@@ -715,7 +715,7 @@ public final class BlockCounter {
             return outcome;
         }
 
-        /** Counts the heads from outside, as the original program has nothing in it that counts. */
+        /** Counts the heads from outside, as a program with an analysis has nothing in it that counts. */
         int executeWatched(Program program, int limit, Analysis analysis) {
             int outcome = GOES_ON;
             for (int i = 0; i < limit && outcome == GOES_ON; i++) {

@@ -41,7 +41,8 @@ public final class FaceTest {
         }
         for (Class<?> c : seen.getDeclaredClasses()) {
             check.same(c + " is static", Boolean.toString(Modifier.isStatic(c.getModifiers())), "true");
-            check.same(c + " is hidden", Integer.toString(c.getModifiers() & (Modifier.PUBLIC | Modifier.PROTECTED)), "0");
+            int open = c.getModifiers() & (Modifier.PUBLIC | Modifier.PROTECTED);
+            check.due(c + " is hidden", () -> open, 0);
         }
         check.end();
     }
