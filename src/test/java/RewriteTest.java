@@ -14,25 +14,18 @@ public final class RewriteTest {
         CHECK.end();
     }
 
-    private static void dueCode(String name, BlockCounter x, int from, int... want) {
-        for (int i = 0; i < want.length; i++) {
-            int address = from + i;
-            CHECK.due(name + ": code " + address, () -> x.code(address, true), want[i]);
-        }
-    }
-
     /** The bytes of the first block's new code, and the block's own bytes after it was rewritten. */
     private static void dueFirst(String name, BlockCounter x, int[] hooked, int... want) {
         x.analyse();
         String told = Check.told(x::rewrite);
-        dueCode(name, x, 96, 76, 0);
-        dueCode(name, x, 98, want);
-        dueCode(name, x, 0, hooked);
+        CHECK.dueCode(name, x, 96, 76, 0);
+        CHECK.dueCode(name, x, 98, want);
+        CHECK.dueCode(name, x, 0, hooked);
         if (Check.told(() -> x.block(1, 0)).equals("IndexOutOfBoundsException")) {
             CHECK.same(name + ": used", told, Integer.toString(2 + want.length));
-            dueCode(name + ": rest", x, 98 + want.length, 0, 0);
+            CHECK.dueCode(name + ": rest", x, 98 + want.length, 0, 0);
         } else {
-            dueCode(name + ": the next one", x, 98 + want.length, 76, 1);
+            CHECK.dueCode(name + ": the next one", x, 98 + want.length, 76, 1);
         }
     }
 
@@ -86,9 +79,9 @@ public final class RewriteTest {
         BlockCounter x = Check.with(48, 3, 12, 8, 60, 2, 68, 250, 70, 11, 0, 52, 2, 13, 3);
         x.analyse();
         CHECK.due("used", x::rewrite, 30);
-        dueCode("section", x, 96, 76, 0, 48, 3, 69, 2, 76, 1, 12, 8, 69, 4, 76, 2, 69, 2,
+        CHECK.dueCode("section", x, 96, 76, 0, 48, 3, 69, 2, 76, 1, 12, 8, 69, 4, 76, 2, 69, 2,
                 76, 3, 77, 11, 10, 76, 4, 0, 76, 5, 52, 2, 69, 13, 0);
-        dueCode("code", x, 0, 69, 96, 69, 102, 60, 2, 69, 108, 69, 112, 2, 69, 120, 13, 3, 0);
+        CHECK.dueCode("code", x, 0, 69, 96, 69, 102, 60, 2, 69, 108, 69, 112, 2, 69, 120, 13, 3, 0);
     }
 
     /** 19 branches take 152 bytes of the section, the rest 8 or 9. */
