@@ -167,7 +167,10 @@ final class Check {
         return all.toString();
     }
 
-    /** All that can be asked of an object without changing it. */
+    /**
+     * All that can be asked of an object without changing it. These are more calls than the document
+     * promises for an object; the class has no limit of its own.
+     */
     static String seen(BlockCounter x) {
         StringBuilder all = new StringBuilder(left(x));
         tell(all, ", code", 96, i -> x.code(i, false));
